@@ -20,6 +20,7 @@ public final class DatingTest {
         wrongGlobes();
         isPirate();
         isPirateWithLosses();
+        isPirateOnAnyGore();
         check.end();
     }
 
@@ -319,6 +320,41 @@ public final class DatingTest {
         w.loseGore(2, 0);
         check.no(w.isPirate(0, 2));
         check.no(w.isPirate(2, 0));
+    }
+
+    private static void isPirateOnAnyGore() {
+        Globewright w = new Globewright();
+        w.plate(100);
+        w.plate(100);
+        w.fact(0, 1600, 1600);
+        w.fact(0, 1400, 1400);
+        for (int i = 0; i < 4; i++) {
+            w.sphere(500);
+            w.globe(i);
+        }
+        // Fact 0 stands on the first gore of one globe and on the last gore of another one.
+        w.print(0);
+        w.print(1);
+        w.cut(0, 0, 0);
+        w.print(0);
+        w.hammer(0, 0);
+        w.cut(1, 0, 50);
+        w.print(1);
+        w.hammer(1, 0);
+        w.cut(1, 1, 50);
+        w.print(1);
+        w.paste(0, 2);
+        w.paste(0, 1);
+        check.no(w.isPirate(0, 1));
+        w.paste(1, 0);
+        w.paste(1, 3);
+        check.no(w.isPirate(0, 2));
+        check.yes(w.isPirate(0, 1));
+        check.yes(w.isPirate(1, 0));
+        w.paste(2, 4);
+        check.no(w.isPirate(1, 2));
+        check.no(w.isPirate(0, 2));
+        check.no(w.isPirate(3, 2));
     }
 
     /**
