@@ -1,7 +1,12 @@
+import java.util.Set;
+
 /** Counts what a test checks; each wrong answer is printed with the line that asked for it. */
 final class Checks {
     /** Answers above any index or count, and below 0, as wrong numbers of things. */
     static final int[] NO_NUMBERS = {-1, 1000, Integer.MIN_VALUE, Integer.MAX_VALUE};
+
+    /** The lines of these are not the ones that ask. */
+    private static final Set<String> HELPERS = Set.of("Checks", "Boundaries", "Boundaries$Sentences");
 
     private int made;
     private int wrong;
@@ -33,10 +38,19 @@ final class Checks {
         judge(thrown != null && thrown.getClass() == due && isOwn(thrown), "threw " + thrown + ", due is " + due);
     }
 
-    /** The class throws without a text; what the machine or the library throws has one, or comes from elsewhere. */
+    void holds(boolean isRight, String message) {
+        judge(isRight, message);
+    }
+
+    int made() {
+        return made;
+    }
+
+    /** Whether a throw statement of the class threw it, and not the library or the machine itself. */
     static boolean isOwn(Throwable thrown) {
         StackTraceElement[] trace = thrown.getStackTrace();
-        return thrown.getMessage() == null && trace.length > 0 && trace[0].getClassName().startsWith("Globewright");
+        boolean isDivision = "/ by zero".equals(thrown.getMessage());
+        return !isDivision && trace.length > 0 && trace[0].getClassName().startsWith("Globewright");
     }
 
     void end() {
@@ -56,7 +70,7 @@ final class Checks {
 
     private static String caller() {
         return StackWalker.getInstance().walk(frames -> frames
-                .filter(frame -> !frame.getClassName().equals("Checks"))
+                .filter(frame -> !HELPERS.contains(frame.getClassName()))
                 .findFirst()
                 .map(frame -> frame.getClassName() + " line " + frame.getLineNumber())
                 .orElse("?"));

@@ -194,7 +194,9 @@ public final class SpheresTest {
             }
         }
         for (int length = -3000; length < 3000; length++) {
-            check.equal(w.scaleBits(2, length), Float.floatToIntBits(9999f / (float) length));
+            Globewright one = new Globewright();
+            one.sphere(9999);
+            check.equal(one.scaleBits(0, length), Float.floatToIntBits(9999f / (float) length));
         }
         for (int wrong : Checks.NO_NUMBERS) {
             check.fails(INDEX, () -> w.scaleBits(wrong, 0));
